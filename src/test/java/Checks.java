@@ -1,0 +1,41 @@
+/** Counts what was right and wrong in one test class. */
+final class Checks {
+    /** A call whose answer or exception is looked at. */
+    interface Asked {
+        Object answer();
+    }
+
+    private final String name;
+    private int passed;
+    private int failed;
+
+    Checks(String name) {
+        this.name = name;
+    }
+
+    void same(String what, Object want, Object got) {
+        if (want.equals(got)) {
+            passed++;
+        } else {
+            failed++;
+            System.out.println(name + ": " + what + " is " + got + ", due is " + want);
+        }
+    }
+
+    void refuses(String what, Class<? extends RuntimeException> want, Asked asked) {
+        String got;
+        try {
+            got = "the answer " + asked.answer();
+        } catch (RuntimeException e) {
+            got = e.getClass().getName();
+        }
+        same(what, want.getName(), got);
+    }
+
+    void end() {
+        System.out.println(name + ": " + passed + " passed, " + failed + " failed");
+        if (failed > 0 || passed == 0) {
+            System.exit(1);
+        }
+    }
+}
