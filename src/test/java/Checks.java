@@ -1,9 +1,17 @@
+import java.util.NoSuchElementException;
+
 /** Counts what was right and wrong in one test class. */
 final class Checks {
     /** A call whose answer or exception is looked at. */
     interface Asked {
         Object answer();
     }
+
+    static final Class<IndexOutOfBoundsException> INDEX = IndexOutOfBoundsException.class;
+    static final Class<IllegalArgumentException> ARGUMENT = IllegalArgumentException.class;
+    static final Class<UnsupportedOperationException> UNSUPPORTED = UnsupportedOperationException.class;
+    static final Class<IllegalStateException> STATE = IllegalStateException.class;
+    static final Class<NoSuchElementException> MISSING = NoSuchElementException.class;
 
     private final String name;
     private int passed;
