@@ -35,9 +35,16 @@ final class Checks {
         try {
             got = "the answer " + asked.answer();
         } catch (RuntimeException e) {
-            got = e.getClass().getName();
+            got = thrown(e);
         }
         same(what, want.getName(), got);
+    }
+
+    /** The exception's name; an exception that the class did not throw itself is never the one that is due. */
+    static String thrown(Throwable e) {
+        StackTraceElement[] trace = e.getStackTrace();
+        boolean isOwn = trace.length > 0 && trace[0].getClassName().equals("MouthpieceRow");
+        return isOwn ? e.getClass().getName() : "the machine's " + e;
     }
 
     void end() {

@@ -13,20 +13,8 @@ public final class DeedsAndAlarmsTest {
         CHECKS.end();
     }
 
-    /** A house in which person 1 knows the a of message 0, 'cat', and person 2 nothing; the call 0 is on. */
-    private static MouthpieceRow halfHeard() {
-        MouthpieceRow house = Houses.peopled(2);
-        house.addPerson(1, 0);
-        house.sleep(2, 9);
-        house.call(0, 1);
-        house.clog(0, 34);
-        Houses.say(house, 0, "cat");
-        house.sleep(2, 0);
-        return house;
-    }
-
     private static void doIt() {
-        MouthpieceRow house = halfHeard();
+        MouthpieceRow house = Houses.halfHeard();
         CHECKS.refuses("person 3", Checks.INDEX, () -> house.doIt(3, 0));
         CHECKS.refuses("person -1", Checks.INDEX, () -> house.doIt(-1, 0));
         CHECKS.refuses("message 1", Checks.INDEX, () -> house.doIt(0, 1));
@@ -48,7 +36,7 @@ public final class DeedsAndAlarmsTest {
     }
 
     private static void fate() {
-        MouthpieceRow house = halfHeard();
+        MouthpieceRow house = Houses.halfHeard();
         CHECKS.refuses("message 1", Checks.INDEX, () -> house.fate(1));
         CHECKS.refuses("message -1", Checks.INDEX, () -> house.fate(-1));
         CHECKS.same("heard", 'h', house.fate(0));
@@ -68,6 +56,12 @@ public final class DeedsAndAlarmsTest {
         house.tellOn(0, 0);
         house.tell(0, 2, 0);
         CHECKS.same("heard first by one who believes nothing", 'k', house.fate(0));
+        house.hang(0);
+        house.clog(0, 0);
+        int back = house.call(1, 0);
+        house.sleep(2, 1);
+        int third = Houses.say(house, back, "tea");
+        CHECKS.same("believed by the first person alone", 'k', house.fate(third));
     }
 
     private static void alarm() {
@@ -82,6 +76,9 @@ public final class DeedsAndAlarmsTest {
         CHECKS.same("another alarm", 2, house.alarm(2));
         CHECKS.same("who knew of the first one", false, house.knowsAlarm(1));
         CHECKS.same("who began it", true, house.knowsAlarm(2));
+        CHECKS.same("passed on to the first person, too", 2, house.passOn(2));
+        CHECKS.same("the first person knows", true, house.knowsAlarm(0));
+        CHECKS.same("three floors have answered", 0, house.unanswered());
     }
 
     /** Rooms 0, 1 and 2 on the floors 0, 2 and 5 in a row, with a person in each. */

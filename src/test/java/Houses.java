@@ -34,6 +34,18 @@ final class Houses {
         return house;
     }
 
+    /** A house in which person 1 knows the a of message 0, 'cat', and person 2 nothing; the call 0 is on. */
+    static MouthpieceRow halfHeard() {
+        MouthpieceRow house = peopled(2);
+        house.addPerson(1, 0);
+        house.sleep(2, 9);
+        house.call(0, 1);
+        house.clog(0, 34);
+        say(house, 0, "cat");
+        house.sleep(2, 0);
+        return house;
+    }
+
     static void type(MouthpieceRow house, String word) {
         for (int i = 0; i < word.length(); i++) {
             house.type(word.charAt(i));

@@ -210,7 +210,8 @@ public final class ModelTest {
         try {
             return String.valueOf(method.invoke(owner, values));
         } catch (InvocationTargetException e) {
-            return "throws " + e.getCause().getClass().getName();
+            Throwable cause = e.getCause();
+            return "throws " + (owner instanceof Model ? cause.getClass().getName() : Checks.thrown(cause));
         }
     }
 }

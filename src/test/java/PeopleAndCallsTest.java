@@ -101,6 +101,7 @@ public final class PeopleAndCallsTest {
         CHECKS.refuses("asleep", Checks.UNSUPPORTED, () -> house.whistle(0, 1));
         CHECKS.same("who sleeps elsewhere is not woken", 0, house.whistle(1, mute));
         CHECKS.same("that one sleeps on", 1, house.depth(0));
+        CHECKS.same("the first person is woken like all", 1, house.whistle(1, 0));
     }
 
     private static void whistleWhereVoiceDoesNotCome() {

@@ -61,6 +61,13 @@ public final class PhonesAndBillsTest {
         CHECKS.same("on the own line, not in the own room", "...", Houses.known(house, near, 1, 3));
         CHECKS.same("the other room on the own line", "dog", Houses.known(house, 4, 1, 3));
         CHECKS.same("not on line 1", "...", Houses.known(house, 1, 1, 3));
+        Houses.type(house, "e");
+        CHECKS.same("message 2", 2, house.phoneSay(4, 0));
+        CHECKS.same("the first room", "e", Houses.known(house, 0, 2, 1));
+        house.setCode(true);
+        Houses.type(house, "e");
+        house.phoneSay(4, 1);
+        CHECKS.same("nothing at all off the line", ".", Houses.known(house, 0, 3, 1));
     }
 
     private static void phoneSayNeeds() {

@@ -11,6 +11,7 @@ public final class SumsTest {
         meanHeard();
         isSound();
         callsUnsound();
+        moreCallsUnsound();
         sourcesUnsound();
         CHECKS.end();
     }
@@ -133,6 +134,28 @@ public final class SumsTest {
         CHECKS.same("a pipe in two calls", false, house.isSound());
     }
 
+    private static void moreCallsUnsound() throws Exception {
+        MouthpieceRow house = Houses.peopled(4);
+        house.call(0, 1);
+        house.call(1, 2);
+        house.setValve(0, false);
+        house.setValve(1, false);
+        Object first = list(house, "calls").get(0);
+        force(first, "isOn", true);
+        CHECKS.same("over the first of two shut pipes", false, house.isSound());
+        force(first, "isOn", false);
+        house.setValve(0, true);
+        house.setValve(1, true);
+        house.call(0, 1);
+        house.call(1, 2);
+        CHECKS.same("two calls beside each other", true, house.isSound());
+        house.hang(3);
+        force(list(house, "calls").get(1), "isOn", true);
+        CHECKS.same("still beside each other", true, house.isSound());
+        force(first, "isOn", true);
+        CHECKS.same("the first and the last over one pipe", false, house.isSound());
+    }
+
     private static void sourcesUnsound() throws Exception {
         MouthpieceRow house = Houses.peopled(3);
         house.sleep(2, 9);
@@ -153,6 +176,13 @@ public final class SumsTest {
         CHECKS.same("from somebody who knows nothing", false, house.isSound());
         force(knowledge[1], "source", author);
         CHECKS.same("mended", true, house.isSound());
+        house.hang(0);
+        house.call(1, 0);
+        Houses.say(house, 1, "a");
+        CHECKS.same("from the second to the first", true, house.isSound());
+        Object other = list(house, "messages").get(1);
+        force(((Object[]) field(other, "knowledge").get(other))[0], "source", null);
+        CHECKS.same("the first without a source", false, house.isSound());
     }
 
     private static List<?> list(MouthpieceRow house, String name) throws Exception {

@@ -281,20 +281,8 @@ public final class WordsTest {
         }
     }
 
-    /** A house in which person 1 knows the a of 'cat' alone, person 2 nothing. */
-    private static MouthpieceRow halfHeard() {
-        MouthpieceRow house = Houses.peopled(2);
-        house.addPerson(1, 0);
-        house.sleep(2, 9);
-        house.call(0, 1);
-        house.clog(0, 34);
-        Houses.say(house, 0, "cat");
-        house.sleep(2, 0);
-        return house;
-    }
-
     private static void believes() {
-        MouthpieceRow house = halfHeard();
+        MouthpieceRow house = Houses.halfHeard();
         CHECKS.same("the author, without orders", true, house.believes(0, 0));
         CHECKS.same("half heard, without orders", false, house.believes(1, 0));
         Houses.order(house, "cats");
@@ -309,31 +297,33 @@ public final class WordsTest {
     }
 
     private static void isRight() {
-        MouthpieceRow house = halfHeard();
+        MouthpieceRow house = Houses.halfHeard();
         CHECKS.same("the author", true, house.isRight(0, 0));
         CHECKS.refuses("half heard", Checks.MISSING, () -> house.isRight(1, 0));
         CHECKS.refuses("not heard", Checks.MISSING, () -> house.isRight(2, 0));
         Houses.order(house, "ham");
         CHECKS.same("a wrong guess", false, house.isRight(1, 0));
         CHECKS.refuses("no guess without a letter", Checks.MISSING, () -> house.isRight(2, 0));
-        MouthpieceRow other = halfHeard();
+        MouthpieceRow other = Houses.halfHeard();
         Houses.order(other, "cat");
         CHECKS.same("a right guess", true, other.isRight(1, 0));
     }
 
     private static void fits() {
-        MouthpieceRow house = halfHeard();
+        MouthpieceRow house = Houses.halfHeard();
         CHECKS.same("no orders", 0, house.fits(1, 0));
         for (String word : new String[] {"cats", "ham", "cot", "at", "cat"}) {
             Houses.order(house, word);
         }
         CHECKS.same("of cat", 1, house.fits(0, 0));
         CHECKS.same("of .a.", 2, house.fits(1, 0));
-        CHECKS.same("of ...", 3, house.fits(2, 0));
+        Houses.order(house, "dat");
+        CHECKS.same("another first letter", 1, house.fits(0, 0));
+        CHECKS.same("of ...", 4, house.fits(2, 0));
     }
 
     private static void sourceChainAndToldAt() {
-        MouthpieceRow house = halfHeard();
+        MouthpieceRow house = Houses.halfHeard();
         house.hang(0);
         house.pass(7);
         CHECKS.refuses("the author has no source", Checks.MISSING, () -> house.source(0, 0));
@@ -358,6 +348,22 @@ public final class WordsTest {
         CHECKS.same("the chain goes by first letters", 2, house.chain(2, 0));
         CHECKS.same("and does not go round", 1, house.chain(1, 0));
         longChain();
+        tooWeak();
+    }
+
+    private static void tooWeak() {
+        MouthpieceRow house = Houses.peopled(2);
+        int call = house.call(0, 1);
+        house.clog(0, 36);
+        Houses.say(house, call, "tea");
+        CHECKS.same("something is heard, but no letter", 3, house.heard(0, 1));
+        CHECKS.refuses("no source by that", Checks.MISSING, () -> house.source(1, 0));
+        CHECKS.refuses("no minute by that", Checks.MISSING, () -> house.toldAt(1, 0));
+        house.pass(2);
+        house.clog(0, 35);
+        CHECKS.same("vowels", 1, house.tellOn(call, 0));
+        CHECKS.same("minute of the first letter", 2, house.toldAt(1, 0));
+        CHECKS.same("letters", ".ea", Houses.known(house, 1, 0, 3));
     }
 
     private static void longChain() {
