@@ -43,7 +43,8 @@ final class Checks {
     /** The exception's name; an exception that the class did not throw itself is never the one that is due. */
     static String thrown(Throwable e) {
         StackTraceElement[] trace = e.getStackTrace();
-        boolean isOwn = trace.length > 0 && trace[0].getClassName().equals("MouthpieceRow");
+        String thrower = trace.length > 0 ? trace[0].getClassName() : "";
+        boolean isOwn = thrower.equals("MouthpieceRow") || thrower.startsWith("MouthpieceRow$");
         return isOwn ? e.getClass().getName() : "the machine's " + e;
     }
 

@@ -69,7 +69,7 @@ public final class ModelTest {
         int made = build(random, real, model);
         List<String> bag = bag(random);
         StringBuilder log = new StringBuilder();
-        for (int i = made; i < CALLS; i++) {
+        for (int used = made; used < CALLS; used++) {
             String[] spec = spec(bag, random, model);
             Method method = REAL.get(spec[0]);
             Object[] values = new Object[spec.length - 2];
@@ -84,8 +84,11 @@ public final class ModelTest {
             if (!got.equals(want)) {
                 return log + "but " + call + " answered " + got;
             }
-            if (want.startsWith("throws ") && real.checksum() != model.checksum()) {
-                return log + "but the throwing call changed something";
+            if (want.startsWith("throws ") && used + 1 < CALLS) {
+                used++;
+                if (real.checksum() != model.checksum()) {
+                    return log + "but the throwing call changed something";
+                }
             }
         }
         return "as the model";
