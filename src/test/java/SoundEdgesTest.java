@@ -21,6 +21,7 @@ public final class SoundEdgesTest {
         lowerPipeAtTheFirstPlace();
         lowerPipeAtTheLastPlace();
         lowerPipeAtAMiddlePlace();
+        lowerPipeAtTheNinthPlace();
         likeWaysOfUnlikeLength();
         pipesOfTwoDigits();
         strongestBeforeLowest();
@@ -279,6 +280,26 @@ public final class SoundEdgesTest {
         house.clog(1, 1);
         CHECKS.same("there, by the stronger", "320", way(house, 0, 3));
         CHECKS.same("back, by the stronger", "023", way(house, 3, 0));
+    }
+
+    /** Of nine pipes the last one is 7 or 8, then 14 or 15. */
+    private static void lowerPipeAtTheNinthPlace() {
+        MouthpieceRow house = Houses.row(8);
+        house.addRoom(0, 0, true);
+        house.addRoom(0, 0, true);
+        house.addPipe(8, 9, 4, 0, 0);
+        house.addPipe(9, 8, 4, 0, 0);
+        house.addPipe(7, 8, 4, 0, 0);
+        CHECKS.same("7 before 8", "012345697", way(house, 0, 9));
+        CHECKS.same("7 before 8, back", "796543210", way(house, 9, 0));
+        house.setValve(7, false);
+        house.setValve(8, false);
+        for (int i = 10; i < 16; i++) {
+            house.addPipe(8, 9, 4, 0, i < 14 ? 9 : 0);
+        }
+        CHECKS.same("14 before 15", "01234569e", way(house, 0, 9));
+        house.clog(14, 1);
+        CHECKS.same("the last pipe", "01234569f", way(house, 0, 9));
     }
 
     private static void likeWaysOfUnlikeLength() {
