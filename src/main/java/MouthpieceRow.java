@@ -1,5 +1,4 @@
 import java.util.ArrayList;
-import java.util.Arrays;
 import java.util.NoSuchElementException;
 
 /** A house that talks through brass tubes. The README says where its promises stand. */
@@ -1127,9 +1126,12 @@ public final class MouthpieceRow {
         }
 
         Word takeWord() {
-            Word word = new Word(Arrays.copyOf(typed, Math.max(0, typedCount)));
+            char[] letters = new char[Math.max(0, typedCount)];
+            for (int i = 0; i < letters.length && i < typed.length; i++) {
+                letters[i] = typed[i];
+            }
             typedCount = 0;
-            return word;
+            return new Word(letters);
         }
 
         boolean isTypedAnOrder() {
